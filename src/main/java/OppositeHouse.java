@@ -862,32 +862,144 @@ public final class OppositeHouse {
             return top > 0 ? held[0] : 0;
         }
 
+        /** What two values are together; only sums and products can leave the bounds. */
         private static int joined(int sign, int a, int b) {
+            long value;
             switch (sign) {
-                case '+': return kept((long) a + b);
-                case '-': return kept((long) a - b);
-                case '*': return kept((long) a * b);
-                case '=': return a == b ? 1 : 0;
-                case '<': return a < b ? 1 : 0;
-                case '>': return a > b ? 1 : 0;
-                case AND: return a & b;
-                default: return a | b;
+                case '+':
+                    value = (long) a + b;
+                    break;
+                case '-':
+                    value = (long) a - b;
+                    break;
+                case '*':
+                    value = (long) a * b;
+                    break;
+                case '=':
+                    value = a == b ? 1 : 0;
+                    break;
+                case '<':
+                    value = a < b ? 1 : 0;
+                    break;
+                case '>':
+                    value = a > b ? 1 : 0;
+                    break;
+                case AND:
+                    value = a & b;
+                    break;
+                default:
+                    value = a | b;
+                    break;
+            }
+            return (int) Math.max(-MOST_VALUE, Math.min(MOST_VALUE, value));
+        }
+    }
+
+    /** The tokens of a text, as far as the first place where none begins; that one is BROKEN. */
+    private static final class Tokens {
+        byte[] text = new byte[0];
+        int length = 0;
+        int size = 0;
+        final int[] kinds = new int[MOST_BYTES + 1];
+        final int[] places = new int[MOST_BYTES + 1];
+        final int[] values = new int[MOST_BYTES + 1];
+
+        void cut(byte[] bytes, int n) {
+            text = bytes;
+            length = Math.min(Math.min(n, bytes.length), MOST_BYTES);
+            size = 0;
+            int at = 0;
+            boolean goesOn = true;
+            for (int i = 0; i <= length && goesOn; i++) {
+                while (at < length && (text[at] == 10 || text[at] == 32)) {
+                    at++;
+                }
+                int end = endOf(at);
+                kinds[i] = kindOf(at, end);
+                places[i] = at;
+                values[i] = kinds[i] == NUMBER ? valueOf(at, end) : 0;
+                size = i + 1;
+                at = end;
+                goesOn = kinds[i] != END && kinds[i] != BROKEN;
             }
         }
 
-        private static int kept(long value) {
-            return (int) Math.max(-MOST_VALUE, Math.min(MOST_VALUE, value));
+        private boolean isLetter(int at) {
+            return at < length && text[at] >= 'a' && text[at] <= 'z';
+        }
+
+        private boolean isDigit(int at) {
+            return at < length && text[at] >= '0' && text[at] <= '9';
+        }
+
+        private int endOf(int at) {
+            int end = at;
+            if (isLetter(at)) {
+                while (isLetter(end)) {
+                    end++;
+                }
+            } else if (isDigit(at)) {
+                while (isDigit(end)) {
+                    end++;
+                }
+            } else if (at < length) {
+                end++;
+            }
+            return end;
+        }
+
+        private int kindOf(int at, int end) {
+            if (at >= length) {
+                return END;
+            }
+            if (isLetter(at)) {
+                return wordOf(at, end);
+            }
+            if (isDigit(at)) {
+                return end - at > 3 ? BROKEN : NUMBER;
+            }
+            char sign = (char) (text[at] & 255);
+            return SIGNS.indexOf(sign) >= 0 ? sign : BROKEN;
+        }
+
+        private int valueOf(int at, int end) {
+            int value = 0;
+            for (int i = at; i < end; i++) {
+                value = 10 * value + text[i] - '0';
+            }
+            return value;
+        }
+
+        private int wordOf(int at, int end) {
+            int number = 0;
+            int start = 0;
+            for (int i = 0; i <= WORDS.length(); i++) {
+                if (i == WORDS.length() || WORDS.charAt(i) == ' ') {
+                    if (i - start == end - at && isWritten(start, at, end - at)) {
+                        return number;
+                    }
+                    number++;
+                    start = i + 1;
+                }
+            }
+            return STRANGE_WORD;
+        }
+
+        private boolean isWritten(int start, int at, int letters) {
+            for (int i = 0; i < letters; i++) {
+                if (WORDS.charAt(start + i) != text[at + i]) {
+                    return false;
+                }
+            }
+            return true;
         }
     }
 
     /** Reads a text token by token; with a fault the token is BROKEN, which stands nowhere. */
     private static final class Reader {
-        byte[] text = new byte[0];
-        int length = 0;
-        int next = 0;
+        final Tokens tokens = new Tokens();
+        int at = 0;
         int token = END;
-        int tokenPlace = 0;
-        int tokenValue = 0;
         int fault = 0;
         int faultPlace = NONE;
         House told = new House();
@@ -896,9 +1008,8 @@ public final class OppositeHouse {
         int namesAllowed = 0;
 
         House read(byte[] bytes, int n) {
-            text = bytes;
-            length = Math.min(n, bytes.length);
-            next = 0;
+            tokens.cut(bytes, n);
+            at = NONE;
             fault = 0;
             faultPlace = NONE;
             told = new House();
@@ -908,7 +1019,7 @@ public final class OppositeHouse {
             told.lines = takeNumber(1, MOST_LINES);
             take(';');
             told.textLines = 1;
-            for (int i = 0; i < length && token != END && token != BROKEN; i++) {
+            for (int i = 0; i < tokens.size && token != END && token != BROKEN; i++) {
                 readLine();
                 take(';');
                 told.textLines++;
@@ -919,87 +1030,19 @@ public final class OppositeHouse {
         private void refuse(int kind) {
             if (fault == 0) {
                 fault = kind;
-                faultPlace = tokenPlace;
+                faultPlace = tokens.places[at];
                 token = BROKEN;
             }
         }
 
         private void advance() {
-            if (fault != 0) {
+            if (fault != 0 || at + 1 >= tokens.size) {
                 return;
             }
-            while (next < length && (text[next] == 10 || text[next] == 32)) {
-                next++;
-            }
-            tokenPlace = next;
-            if (next >= length) {
-                token = END;
-                return;
-            }
-            char c = (char) (text[next] & 255);
-            if (isLetter(c)) {
-                readWord();
-            } else if (isDigit(c)) {
-                readNumber();
-            } else if (SIGNS.indexOf(c) >= 0) {
-                token = c;
-                next++;
-            } else {
+            at++;
+            token = tokens.kinds[at];
+            if (token == BROKEN) {
                 refuse(NO_TOKEN);
-            }
-        }
-
-        private static boolean isLetter(int c) {
-            return c >= 'a' && c <= 'z';
-        }
-
-        private static boolean isDigit(int c) {
-            return c >= '0' && c <= '9';
-        }
-
-        private void readWord() {
-            while (next < length && isLetter(text[next])) {
-                next++;
-            }
-            token = STRANGE_WORD;
-            int number = 0;
-            int start = 0;
-            for (int i = 0; i <= WORDS.length(); i++) {
-                if (i == WORDS.length() || WORDS.charAt(i) == ' ') {
-                    if (isWritten(start, i)) {
-                        token = number;
-                    }
-                    number++;
-                    start = i + 1;
-                }
-            }
-        }
-
-        /** Whether the word that was read is that of WORDS from start to end. */
-        private boolean isWritten(int start, int end) {
-            if (end - start != next - tokenPlace) {
-                return false;
-            }
-            for (int i = start; i < end; i++) {
-                if (WORDS.charAt(i) != text[tokenPlace + i - start]) {
-                    return false;
-                }
-            }
-            return true;
-        }
-
-        private void readNumber() {
-            tokenValue = 0;
-            while (next < length && isDigit(text[next])) {
-                if (next - tokenPlace < 3) {
-                    tokenValue = 10 * tokenValue + text[next] - '0';
-                }
-                next++;
-            }
-            if (next - tokenPlace > 3) {
-                refuse(NO_TOKEN);
-            } else {
-                token = NUMBER;
             }
         }
 
@@ -1016,7 +1059,7 @@ public final class OppositeHouse {
                 refuse(MISPLACED);
                 return least;
             }
-            int value = tokenValue;
+            int value = tokens.values[at];
             if (value < least || value > most) {
                 refuse(OUT_OF_BOUNDS);
                 return least;
@@ -1066,7 +1109,7 @@ public final class OppositeHouse {
             told.temper[p] = 10;
             told.weight[p] = 1;
             boolean more = true;
-            for (int i = 0; i < length && more; i++) {
+            for (int i = 0; i < tokens.size && more; i++) {
                 more = readFlag(p);
             }
             told.people++;
@@ -1117,7 +1160,7 @@ public final class OppositeHouse {
         /** The depth is how many of not [ ( stand open around what is read. */
         private void readTruth(int depth) {
             readBoth(depth);
-            for (int i = 0; i < length && token == OR; i++) {
+            for (int i = 0; i < tokens.size && token == OR; i++) {
                 advance();
                 readBoth(depth);
                 add(SIGN_STEP + OR);
@@ -1126,7 +1169,7 @@ public final class OppositeHouse {
 
         private void readBoth(int depth) {
             readUnit(depth);
-            for (int i = 0; i < length && token == AND; i++) {
+            for (int i = 0; i < tokens.size && token == AND; i++) {
                 advance();
                 readUnit(depth);
                 add(SIGN_STEP + AND);
@@ -1168,7 +1211,7 @@ public final class OppositeHouse {
 
         private void readSum(int depth) {
             readTerm(depth);
-            for (int i = 0; i < length && (token == '+' || token == '-'); i++) {
+            for (int i = 0; i < tokens.size && (token == '+' || token == '-'); i++) {
                 int sign = token;
                 advance();
                 readTerm(depth);
@@ -1178,7 +1221,7 @@ public final class OppositeHouse {
 
         private void readTerm(int depth) {
             readAtom(depth);
-            for (int i = 0; i < length && token == '*'; i++) {
+            for (int i = 0; i < tokens.size && token == '*'; i++) {
                 advance();
                 readAtom(depth);
                 add(SIGN_STEP + '*');
@@ -1187,7 +1230,7 @@ public final class OppositeHouse {
 
         private void readAtom(int depth) {
             if (token == NUMBER) {
-                add(tokenValue);
+                add(tokens.values[at]);
                 advance();
             } else if (token == '(') {
                 if (goesDeeper(depth)) {
