@@ -846,8 +846,9 @@ public final class OppositeHouse {
             for (int i = 0; i < steps.length; i++) {
                 int step = steps[i];
                 if (step < SIGN_STEP) {
-                    if (top < held.length) {
-                        held[top] = step < NAME_STEP ? step : given[step - NAME_STEP];
+                    int name = step - NAME_STEP;
+                    if (top < held.length && name < given.length) {
+                        held[top] = name < 0 ? step : given[name];
                         top++;
                     }
                 } else if (step == SIGN_STEP + NOT) {

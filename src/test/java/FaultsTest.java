@@ -12,6 +12,7 @@ final class FaultsTest {
         bounds();
         tooMany();
         firstAlongTheText();
+        longTexts();
         Due.end();
     }
 
@@ -181,6 +182,22 @@ final class FaultsTest {
         fault(2, "house lines 1;sways : ((((((^[ 1;");
         fault(2, "house lines 1;ayes : [[[[[[1 = 1 ^[;");
         fault(2, "house lines 1;sways : ((((((1)))))^;");
+    }
+
+    private static void longTexts() {
+        fault(2, "^" + ";".repeat(900));
+        fault(2, "house lines 1;^" + ";".repeat(886));
+        String sum = "house lines 1;person 1;person 1;sways:0" + "+1".repeat(430) + ";";
+        Due.is("as long as a text can be", sum.length(), 900);
+        sound(sum);
+        OppositeHouse x = Due.told(sum);
+        x.talk(0, 1);
+        Due.is("its law", x.person(0, 0), 2);
+        x = Due.told(sum.replace("0+1", "0-1").replace("+1", "-0"));
+        x.talk(0, 1);
+        Due.is("its law", x.person(0, 0), 0);
+        fault(2, "house lines 1;" + " ".repeat(885) + "^1");
+        sound("house lines 1;" + " ".repeat(886));
     }
 
     private static void firstAlongTheText() {

@@ -25,7 +25,8 @@ final class ModelTest {
             run(seed);
         }
         for (long seed = start; seed < start + 20L * runs; seed++) {
-            readSpoilt(seed);
+            readSpoilt(new Texts(seed).spoilt());
+            readSpoilt(new Texts(seed).scraps());
         }
         Due.end();
     }
@@ -49,10 +50,10 @@ final class ModelTest {
         }
     }
 
-    private static void readSpoilt(long seed) {
+    private static void readSpoilt(String text) {
         x = new OppositeHouse();
         model = new Model();
-        tell(new Texts(seed).spoilt());
+        tell(text);
         for (int what = 0; what < 9; what++) {
             Due.is("count(" + what + ") behind " + told, x.count(what), model.count(what));
         }

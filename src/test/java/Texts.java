@@ -103,6 +103,17 @@ final class Texts {
         return kind == 10 && law.equals("sways") ? "line" : FOR_TWO[n(FOR_TWO.length)];
     }
 
+    /** A law of many scraps, most of which could stand in it. */
+    String scraps() {
+        String[] laws = {"opposes", "ayes", "sways"};
+        StringBuilder text = new StringBuilder("house lines 1;").append(laws[n(3)]).append(':');
+        String[] likely = {"not", "[", "]", "(", ")", "1", "ease", "other", "=", "<", "+", "-", "*", "and", "or", ";", "day"};
+        for (int i = n(60); i > 0; i--) {
+            text.append(' ').append(n(30) == 0 ? SCRAPS[n(SCRAPS.length)] : likely[n(likely.length)]);
+        }
+        return text.append(";").toString();
+    }
+
     /** A house with some scraps of text put in, cut out, or its end cut off. */
     String spoilt() {
         StringBuilder text = new StringBuilder(house());
