@@ -244,6 +244,12 @@ final class DeedsTest {
         Due.is("of 8 bits: a day; no such person", x.perform(2), 1);
         x.write(2, 1, 200);
         Due.is("200 is none of 8 bits", x.judge(2, 1), 1);
+        long[] days = new long[40];
+        java.util.Arrays.fill(days, -1);
+        Due.lay(x, 3, days);
+        Due.is("40 days can be", x.judge(3, 0), -1);
+        Due.is("40 days", x.perform(3), 40);
+        Due.is("two days, and 40", x.count(4), 42);
     }
 
     private static void performUndone() {

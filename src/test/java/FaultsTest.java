@@ -61,6 +61,7 @@ final class FaultsTest {
         fault(2, "house lines 1;^;");
         fault(2, "house lines 1;^house lines 1;");
         fault(2, "house lines 1;^1;");
+        fault(2, "house lines 1;^zaz;");
         fault(2, "house lines 1;^persons 1;");
         fault(2, "house lines 1;day ^;");
         fault(2, "house lines 1;day 1 ^2;");

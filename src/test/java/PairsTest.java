@@ -155,7 +155,11 @@ final class PairsTest {
         x = Due.told("house lines 1;" + "person 0;".repeat(6) + "opposes : who < 2 and other > 1;");
         Due.is("0 and 1", x.bar(63, 1), 3);
         Due.is("of three and two nobody: one odd piece, one left over", x.bar(31, 1), 0);
-        // Three fans of three around 3: removing 3 leaves three odd pieces.
+        // 0 opposes 2 3 4, 4 opposes 0 1 5: without 0 and without 4 there are three odd pieces each.
+        x = Due.told("house lines 1;" + "person 0;".repeat(6)
+                + "opposes : who = 0 and other > 1 and other < 5 or who = 4 and [other = 1 or other = 5];");
+        Due.is("0, the least of like ones", x.bar(63, 1), 1);
+        // Three threes of opposites, and 9, who opposes all.
         x = Due.told("house lines 1;" + "person 0;".repeat(10)
                 + "opposes : who = 9 or who < 3 and other < 3 or who > 2 and who < 6 and other > 2 and other < 6"
                 + " or who > 5 and other > 5;");
