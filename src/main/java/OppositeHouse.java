@@ -19,6 +19,8 @@ public final class OppositeHouse {
     private static final int ALL_SETS = 1024;
     private static final int ALL_VIEWS = 1000;
     private static final int LAST_TOLD_DAY = 999;
+    /** Far above every day that calls can reach. */
+    private static final int NO_LAST_DAY = 1000000;
     private static final int WEEK = 7;
     private static final int DAYS_TO_COME = 100;
     private static final int MOST_DAYS = 99;
@@ -38,9 +40,7 @@ public final class OppositeHouse {
 
     /** What a law can name, by its place in the row of values that a law is given. */
     private static final int EASE = 0;
-    private static final int WHO = 3;
     private static final int UNEASE = 4;
-    private static final int OTHER = 7;
     private static final int DAY = 8;
     private static final int BILL = 9;
     private static final int LINE = 10;
@@ -1043,7 +1043,8 @@ public final class OppositeHouse {
             at++;
             token = tokens.kinds[at];
             if (token == BROKEN) {
-                refuse(NO_TOKEN);
+                fault = NO_TOKEN;
+                faultPlace = tokens.places[at];
             }
         }
 
@@ -1106,7 +1107,7 @@ public final class OppositeHouse {
             }
             told.views[p] = views;
             told.first[p] = 0;
-            told.last[p] = Integer.MAX_VALUE;
+            told.last[p] = NO_LAST_DAY;
             told.temper[p] = 10;
             told.weight[p] = 1;
             boolean more = true;
