@@ -438,7 +438,7 @@ public final class OppositeHouse {
                 }
             }
         }
-        return now.day + soonest;
+        return soonest;
     }
 
     public int firstDay() {
@@ -452,7 +452,7 @@ public final class OppositeHouse {
                 }
             }
         }
-        return soonest < DAYS_TO_COME ? now.day + soonest : NONE;
+        return soonest < DAYS_TO_COME ? soonest : NONE;
     }
 
     public int quorum() {

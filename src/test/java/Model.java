@@ -814,7 +814,7 @@ final class Model {
 
     public int bestDay() {
         Map<Long, Integer> known = new HashMap<>();
-        int best = now.day;
+        int best = 0;
         int most = -1;
         for (int day = now.day; day < now.day + 100; day++) {
             int set = townOn(now, day);
@@ -822,7 +822,7 @@ final class Model {
             int twos = known.computeIfAbsent(set * 10L + day % 7, k -> mostTwos(now, set, onDay));
             if (twos > most) {
                 most = twos;
-                best = day;
+                best = day - now.day;
             }
         }
         return best;
@@ -832,7 +832,7 @@ final class Model {
         for (int day = now.day; day < now.day + 100; day++) {
             int set = townOn(now, day);
             if (Integer.bitCount(set) >= 2 && sit(now, set, day)) {
-                return day;
+                return day - now.day;
             }
         }
         return NONE;

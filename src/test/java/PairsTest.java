@@ -182,13 +182,13 @@ final class PairsTest {
 
     private static void bestDay() {
         OppositeHouse x = Due.told("house lines 1;person 9;person 0 in 12 to 20;person 9 in 14 to 15;person 0 in 15 to 15;day 10;");
-        Due.is("day 15, the first of two twos", x.bestDay(), 15);
+        Due.is("day 15, the first of two twos, in 5", x.bestDay(), 5);
         x.days(5);
-        Due.is("today", x.bestDay(), 15);
+        Due.is("today", x.bestDay(), 0);
         x.days(1);
-        Due.is("the first of one two", x.bestDay(), 16);
+        Due.is("the first of one two, today", x.bestDay(), 0);
         x.days(5);
-        Due.is("none: today", x.bestDay(), 21);
+        Due.is("none: today", x.bestDay(), 0);
         x = Due.told("house lines 1;person 9;person 0 in 99 to 99;person 0 in 100 to 100 weight 50;");
         Due.is("in 99 days", x.bestDay(), 99);
         x.send(1);
@@ -197,26 +197,31 @@ final class PairsTest {
         Due.is("most twos, whatever their weight", x.bestDay(), 5);
         x.send(0);
         Due.is("those away don't count", x.bestDay(), 0);
+        x = new OppositeHouse();
+        x.days(1);
+        Due.is("without people today, whatever its number", x.bestDay(), 0);
+        x = Due.told("house lines 1;person 9;person 0 in 999 to 999;day 900;");
+        Due.is("day 999, in 99", x.bestDay(), 99);
     }
 
     private static void bestDayByLaw() {
         OppositeHouse x = Due.told("house lines 1;person 1;person 1;person 2;person 2;opposes : day = 3 or day = 5 and ease = unease;day 4;");
-        Due.is("of days 5 and 10 the first", x.bestDay(), 5);
-        Due.is("the first on which they sit", x.firstDay(), 5);
+        Due.is("of days 5 and 10 the first, tomorrow", x.bestDay(), 1);
+        Due.is("the first on which they sit", x.firstDay(), 1);
         x.days(2);
-        Due.is("day 10", x.bestDay(), 10);
-        Due.is("day 10", x.firstDay(), 10);
+        Due.is("day 10, in 4", x.bestDay(), 4);
+        Due.is("day 10, in 4", x.firstDay(), 4);
         x = Due.told("house lines 1;person 1;person 1;person 2;person 2;opposes : day = 6 or day = 0 and who = 0 and other = 1;");
         Due.is("more twos later", x.bestDay(), 6);
     }
 
     private static void firstDay() {
         OppositeHouse x = Due.told("house lines 1;person 9 in 3 to 9;person 0 in 12 to 20;person 9 in 14 to 16;person 0 in 15 to 15;day 10;");
-        Due.is("1 and 2 on day 14", x.firstDay(), 14);
+        Due.is("1 and 2 on day 14, in 4", x.firstDay(), 4);
         x.days(5);
-        Due.is("of 1 2 3 none; day 16", x.firstDay(), 16);
+        Due.is("of 1 2 3 none; day 16, in 1", x.firstDay(), 1);
         x.days(1);
-        Due.is("today", x.firstDay(), 16);
+        Due.is("today", x.firstDay(), 0);
         x.days(1);
         Due.is("never again", x.firstDay(), -1);
         x.days(10);
@@ -225,6 +230,10 @@ final class PairsTest {
         Due.is("in 99 days", x.firstDay(), 99);
         x = Due.told("house lines 1;person 9;person 0 in 100 to 100;");
         Due.is("in 100 days", x.firstDay(), -1);
+        x.days(1);
+        Due.is("in 99 days a day later", x.firstDay(), 99);
+        x.days(98);
+        Due.is("tomorrow", x.firstDay(), 1);
     }
 
     private static void quorum() {
