@@ -936,11 +936,11 @@ public final class OppositeHouse {
         private int endOf(int at) {
             int end = at;
             if (isLetter(at)) {
-                while (isLetter(end)) {
+                while (end < length && isLetter(end)) {
                     end++;
                 }
             } else if (isDigit(at)) {
-                while (isDigit(end)) {
+                while (end < length && isDigit(end)) {
                     end++;
                 }
             } else if (at < length) {
