@@ -21,7 +21,7 @@ final class Texts {
     String house() {
         int lines = 1 + n(3);
         StringBuilder text = new StringBuilder("house lines ").append(lines).append(';');
-        int people = n(4) == 0 ? n(11) : 3 + n(6);
+        int people = n(4) == 0 ? n(11) : 3 + n(8);
         for (int p = 0; p < people; p++) {
             text.append(person(lines));
         }
@@ -35,7 +35,7 @@ final class Texts {
             text.append("sways : ").append(sum("sways", 0)).append(';');
         }
         if (n(2) == 0) {
-            text.append("day ").append(n(3) == 0 ? n(1000) : n(12)).append(";\n");
+            text.append("day ").append(n(3) == 0 ? n(1000) : n(5) == 0 ? 999 - n(3) : n(12)).append(";\n");
         }
         return text.length() > 900 ? house() : text.toString();
     }
@@ -52,7 +52,7 @@ final class Texts {
                     text.append(" in ").append(first).append(" to ").append(n(3) == 0 ? 999 : first + n(20));
                 }
                 case 1 -> text.append(" temper ").append(n(11));
-                default -> text.append(" weight ").append(1 + n(5));
+                default -> text.append(" weight ").append(n(5) == 0 ? 99 - n(2) : 1 + n(5));
             }
         }
         return text.append(';').append(n(3) == 0 ? "\n" : "").toString();
