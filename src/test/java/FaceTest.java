@@ -13,7 +13,54 @@ import java.util.regex.Pattern;
 
 /** The public face is that of the document, and README.md shows each call of it, and each code but -4. */
 final class FaceTest {
-    private static final Path DOCUMENT = Path.of("../shared/DOC.md");
+    /** As the document writes it under 'The public face'. */
+    private static final String FACE = """
+            public static final int NONE = -1;
+            public OppositeHouse();
+            public int feed(int a, int b, int c, int d, int e);
+            public int house(int n);
+            public int fault(int what);
+            public int person(int p, int what);
+            public int town(int n);
+            public int opposed(int p, int q);
+            public int opposites(int p);
+            public int talk(int p, int q);
+            public int send(int p);
+            public int call(int p);
+            public int days(int n);
+            public int undo(int n);
+            public int judge(int tray, int what);
+            public int perform(int tray);
+            public int year(int seed, int times);
+            public int sits(int set);
+            public int pairs(int set, int what);
+            public int ways(int set);
+            public int bar(int set, int what);
+            public int pieces(int set);
+            public int bestDay();
+            public int firstDay();
+            public int quorum();
+            public int cover(int set, int what);
+            public int laundress(int set);
+            public int talks(int p, int q);
+            public int talkBy(int p, int q, int i);
+            public int word();
+            public int ayes(int bill);
+            public int passes(int bill);
+            public int passed(int bill, int what);
+            public int easiest();
+            public int hidden(int p, int set);
+            public int hiddenAt(int p, int set, int k);
+            public int probe(int p, int set);
+            public long chance(int set, int what);
+            public int reserve(int set);
+            public int numbers(int tray, int sort, int n);
+            public long write(int tray, int i, long v);
+            public int lists(int tray, int p, int q);
+            public int image(int i);
+            public int restore(int i);
+            public int count(int what);
+            """;
     private static final Path PAGE = Path.of("README.md");
     private static final int[] CODES = {-1, -2, -3, -5, -6, -7, -11, -12, -31, -32, -33, -34};
 
@@ -36,10 +83,9 @@ final class FaceTest {
     }
 
     /** The members that the document tells, without the names of what is given. */
-    private static Set<String> toldFace() throws Exception {
-        String block = String.join("\n", Examples.blocksOf(Files.readAllLines(DOCUMENT)).get(0));
+    private static Set<String> toldFace() {
         Set<String> members = new TreeSet<>();
-        Matcher lines = Pattern.compile("(?m)^ +public ([^;]*);$").matcher(block);
+        Matcher lines = Pattern.compile("(?m)^public ([^;]*);$").matcher(FACE);
         while (lines.find()) {
             members.add(lines.group(1).replaceAll(" = .*", "").replaceAll("(int|long) \\w+(?=[,)])", "$1"));
         }
